@@ -17,7 +17,6 @@ public final class VerseScanner {
     private static final int IAMB = 0;
     private static final int TROCHEE = 1;
     private static final int ANAPEST = 2;
-    private static final int DACTYL = 3;
     private static final int MIN_FEET = 2;
     private static final int MAX_FEET = 6;
     private static final int FEET_CHOICES = MAX_FEET - MIN_FEET + 1;
@@ -244,7 +243,7 @@ public final class VerseScanner {
             case 2:
                 return reading.places;
             case 3:
-                return reading.mostElisions();
+                return reading.mostElisions;
             case 4:
                 return Integer.bitCount(looked.commas);
             case 5:
@@ -332,13 +331,10 @@ public final class VerseScanner {
         if (key != NO_KEY) {
             return fits(key) ? 0 : 4;
         }
-        if (reading.syllables < now.metre.fewestSyllables()) {
+        if (reading.hasTooFew(now.metre)) {
             return 1;
         }
-        if (reading.syllables - reading.mostElisions() > now.metre.positions + 1) {
-            return 2;
-        }
-        return 3;
+        return reading.hasTooMany(now.metre) ? 2 : 3;
     }
 
     public int difference(int one, int other) throws IndexOutOfBoundsException {
@@ -687,6 +683,8 @@ public final class VerseScanner {
         final char[] letters;
         final int cores;
         final int sounding;
+        final boolean beginsWithVowel;
+        final boolean endsInVowelOfCore;
         private final int[] coreStarts = new int[MAX_LETTERS];
 
         Word(char[] letters) {
@@ -703,6 +701,8 @@ public final class VerseScanner {
             // without a run of vowels the whole word is the core, and its start is 0 in the row already
             cores = Math.max(1, isLastMute ? runs - 1 : runs);
             sounding = isLastMute ? last : letters.length;
+            beginsWithVowel = last >= 0 && isVowel(letters[0]);
+            endsInVowelOfCore = last >= 0 && !isLastMute && isVowel(letters[last]);
         }
 
         char letterAt(int i) {
@@ -711,14 +711,6 @@ public final class VerseScanner {
 
         int coreStart(int core) {
             return core >= 0 && core < coreStarts.length ? coreStarts[core] : 0;
-        }
-
-        boolean beginsWithVowel() {
-            return isVowel(letterAt(0));
-        }
-
-        boolean endsInVowelOfCore() {
-            return sounding == letters.length && isVowel(letterAt(sounding - 1));
         }
 
         boolean isSame(Word other) {
@@ -1126,6 +1118,7 @@ public final class VerseScanner {
         int places = 0;
         int commas = 0;
         int marked = 0;
+        int mostElisions = 0;
         private final int[] counts = new int[MAX_WORDS];
         private final int[] marks = new int[MAX_WORDS * MAX_MARKS];
 
@@ -1142,6 +1135,7 @@ public final class VerseScanner {
                     addPlace(i, word, line.wordAt(i + 1));
                 }
             }
+            mostElisions = countMostElisions();
         }
 
         private void fillWord(int number, Word word, Marking marking) {
@@ -1159,7 +1153,7 @@ public final class VerseScanner {
         }
 
         private void addPlace(int number, Word word, Word next) {
-            if (next != null && !hasCommaBehind(number) && word.endsInVowelOfCore() && next.beginsWithVowel()) {
+            if (next != null && !hasCommaBehind(number) && word.endsInVowelOfCore && next.beginsWithVowel) {
                 places |= 1 << number;
             }
         }
@@ -1186,7 +1180,15 @@ public final class VerseScanner {
             return hasPlace(word) && !(isElidedBefore && countOf(word) == 1);
         }
 
-        int mostElisions() {
+        boolean hasTooFew(Metre metre) {
+            return syllables < metre.fewestSyllables();
+        }
+
+        boolean hasTooMany(Metre metre) {
+            return syllables - mostElisions > metre.positions + 1;
+        }
+
+        private int countMostElisions() {
             int made = 0;
             boolean isElided = false;
             for (int i = 0; i < words; i++) {
@@ -1238,6 +1240,9 @@ public final class VerseScanner {
         int search(Metre metre) {
             found = 0;
             int best = NO_KEY;
+            if (reading.hasTooFew(metre) || reading.hasTooMany(metre)) {
+                return best;
+            }
             for (int inversion = 0; inversion <= 1; inversion++) {
                 begin(metre, inversion == 1);
                 Arrays.fill(keys, NO_KEY);

@@ -48,6 +48,7 @@ public final class PromisesTest {
         scanOfEquals();
         inversions();
         scans();
+        manyElisions();
         reason();
         difference();
         suits();
@@ -754,6 +755,25 @@ public final class PromisesTest {
         Due.fails("no such draft", INDEX, () -> x.scans(4, 0));
     }
 
+    private static void manyElisions() {
+        VerseScanner x = with("aba aba aba aba aba aba aba aba aba aba aba aba");
+        x.setMetre(0, 6, 0);
+        // 24 syllables become 13 by all elisions: 2 twelve times, then 0; six of them stand on weak positions
+        scanIs(x, 0, 22 + 1 + 18, 0b11111111111, 0, 13, 0, 6);
+        Due.is("scans by all elisions", 2, () -> x.scans(0, 0));
+        excepted(x, "aba 11");
+        x.setMetre(3, 5, 0);
+        // 14, 15 or 16 syllables are due, by 10, 9 or 8 elisions of 11: 21, 18 or 17
+        scanIs(x, 0, 17, 0b11111111, 0, 16, -1, 0);
+        Due.is("scans by 10, 9 or 8 elisions", 2 * (11 + 55 + 165), () -> x.scans(0, 0));
+        x.setMetre(2, 6, 0);
+        scanIs(x, 0, 11, 0b11111, 0, 19, -1, 0);
+        Due.is("scans by 6 or 5 elisions", 2 * (462 + 462), () -> x.scans(0, 0));
+        x.setTolerance(10);
+        Due.is("the reason", 4, () -> x.reason(0, 0));
+        Due.is("elisions of the draft", 5, () -> x.account(0, 6));
+    }
+
     private static void reason() {
         VerseScanner x = with("a day a day", "a day a", "day day day day day day", "a day a a day day", "a silver day");
         x.setMetre(0, 2, 0);
@@ -798,6 +818,8 @@ public final class PromisesTest {
         Due.is("of a line changed and one removed", 4, () -> differenceOf("a b c/d/e f", "a b x/e f"));
         VerseScanner x = with("a", "b");
         Due.is("of a draft and itself", 0, () -> x.difference(0, 0));
+        Due.is("of ten lines", 10, () -> differenceOf("a/b/c/d/e/f/g/h/i/j", "k/l/m/n/o/p/q/r/s/t"));
+        Due.is("of ten lines and none", 30, () -> differenceOf("a/b/c/d/e/f/g/h/i/j", ""));
         Due.fails("no such draft", INDEX, () -> x.difference(4, 0));
         Due.fails("no such draft", INDEX, () -> x.difference(0, -1));
     }
@@ -811,6 +833,12 @@ public final class PromisesTest {
         VerseScanner y = with("silver silver silver");
         Due.is("three trochees", 13, () -> y.suits(0));
         Due.is("of equals the lowest kind", 2, () -> with("a day a day").suits(0));
+        // day has the mark 2, all others 1: iambs need an inversion for two of the lines, trochees for none
+        Due.is("of equals the least costs, not the lowest kind", 12, () -> {
+            VerseScanner z = excepted(new VerseScanner(), "day 2");
+            return added(z, 0, "day a a a", "a a b a", "day a b a").suits(0);
+        });
+        Due.is("of equals the fewest feet", 2, () -> with("a b a b a").suits(0));
         Due.is("the most lines before the least costs", 13, () -> with("silver silver silver", "silver silver silver", "a memory").suits(0));
         Due.is("six dactyls", 36, () -> {
             VerseScanner z = excepted(new VerseScanner(), "b 200");
