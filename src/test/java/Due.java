@@ -7,18 +7,27 @@ final class Due {
         Object answer() throws Exception;
     }
 
+    private static final int MOST_TOLD = 40;
     private static final List<String> WRONG = new ArrayList<>();
+    private static String subject = "";
     private static int calls = 0;
 
     private Due() {
     }
 
+    /** Names what the calls from here on are for. */
+    static void about(String name) {
+        subject = name + ": ";
+    }
+
+    static int calls() {
+        return calls;
+    }
+
     static void is(String call, Object due, Call made) {
-        calls++;
         Object got = outcome(made);
-        if (!due.equals(got)) {
-            WRONG.add(call + " answered " + got + ", due is " + due);
-        }
+        boolean isDue = due.equals(got);
+        holds(isDue ? call : call + " answered " + got + ", due is " + due, isDue);
     }
 
     static void fails(String call, Class<? extends Exception> due, Call made) {
@@ -28,7 +37,7 @@ final class Due {
     static void holds(String what, boolean isTrue) {
         calls++;
         if (!isTrue) {
-            WRONG.add(what);
+            WRONG.add(subject + what);
         }
     }
 
@@ -42,7 +51,7 @@ final class Due {
     }
 
     static void end() {
-        for (int i = 0; i < WRONG.size() && i < 40; i++) {
+        for (int i = 0; i < WRONG.size() && i < MOST_TOLD; i++) {
             System.out.println(WRONG.get(i));
         }
         System.out.println(calls + " calls, " + WRONG.size() + " not as due");

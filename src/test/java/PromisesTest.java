@@ -1,15 +1,5 @@
-import java.util.NoSuchElementException;
-
 /** Answers worked out by hand from the document: a method for each promise, and some for its description. */
-public final class PromisesTest {
-    private static final Class<IllegalArgumentException> ARGUMENT = IllegalArgumentException.class;
-    private static final Class<IllegalStateException> STATE = IllegalStateException.class;
-    private static final Class<IndexOutOfBoundsException> INDEX = IndexOutOfBoundsException.class;
-    private static final Class<NoSuchElementException> ELEMENT = NoSuchElementException.class;
-    private static final Class<ArithmeticException> ARITHMETIC = ArithmeticException.class;
-    private static final String TWELVE = "a b c d e f g h i j k l";
-    private static final int[] ENDS = {Integer.MIN_VALUE, -1, Integer.MAX_VALUE};
-
+public final class PromisesTest extends Scanners {
     private PromisesTest() {
     }
 
@@ -60,73 +50,6 @@ public final class PromisesTest {
         restore();
         wrongNumbers();
         Due.end();
-    }
-
-    private static VerseScanner fed(VerseScanner x, String text) {
-        for (char c : text.toCharArray()) {
-            x.feed(c);
-        }
-        return x;
-    }
-
-    private static VerseScanner added(VerseScanner x, int draft, String... lines) {
-        for (String line : lines) {
-            fed(x, line).addLine(draft, x.account(draft, 0));
-        }
-        return x;
-    }
-
-    /** A scanner whose draft 0 has these lines. */
-    private static VerseScanner with(String... lines) {
-        return added(new VerseScanner(), 0, lines);
-    }
-
-    private static VerseScanner excepted(VerseScanner x, String... exceptions) {
-        for (String exception : exceptions) {
-            fed(x, exception).readException();
-        }
-        return x;
-    }
-
-    private static String text(VerseScanner x, int draft, int line) {
-        StringBuilder text = new StringBuilder();
-        try {
-            for (int i = 0; i < 61; i++) {
-                text.append(x.character(draft, line, i));
-            }
-        } catch (IndexOutOfBoundsException e) {
-            return text.toString();
-        }
-        return "no end";
-    }
-
-    private static String texts(VerseScanner x, int draft) {
-        StringBuilder all = new StringBuilder();
-        for (int i = 0; i < x.account(draft, 0); i++) {
-            all.append(i == 0 ? "" : "/").append(text(x, draft, i));
-        }
-        return all.toString();
-    }
-
-    private static String rhymeOf(VerseScanner x, int line) {
-        StringBuilder rhyme = new StringBuilder();
-        for (int i = 0; i < x.line(0, line, 6); i++) {
-            rhyme.append(x.rhyme(0, line, i));
-        }
-        return rhyme.toString();
-    }
-
-    /** All that can be asked of the state but the lines of drafts 2 and 3. */
-    private static String state(VerseScanner x) {
-        StringBuilder told = new StringBuilder();
-        for (int i = 0; i < 3; i++) {
-            told.append(x.metre(i)).append(' ');
-        }
-        told.append(x.exceptions()).append(' ').append(texts(x, 0)).append(" | ").append(texts(x, 1));
-        for (int i = 0; i < x.account(0, 0); i++) {
-            told.append(' ').append(x.word(0, i, 0, 5)).append(' ').append(x.reason(0, i));
-        }
-        return told.toString();
     }
 
     private static void newObject() {
