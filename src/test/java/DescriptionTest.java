@@ -21,8 +21,8 @@ public final class DescriptionTest extends Scanners {
 
     // ---- Texts of lines
 
-    @Sentence("The form of a line is: word, then any number of times a blank or a comma and a blank, followed by a word, "
-            + "then perhaps a comma.")
+    @Sentence("The form of a line is: word, then any number of times a blank or a comma and a blank, followed by a "
+            + "word, then perhaps a comma.")
     static void formOfLine() {
         lineReads("a", 1);
         lineReads("a,", 1);
@@ -70,9 +70,9 @@ public final class DescriptionTest extends Scanners {
         Due.is("the twelfth word", 1, () -> with(TWELVE).word(0, 0, 11, 0));
     }
 
-    @Sentence("The error position of a text is the position, from 0, of the first character that cannot continue a line, "
-            + "or the length of the text if it ends too early; the first letter of a thirteenth word cannot continue a "
-            + "line.")
+    @Sentence("The error position of a text is the position, from 0, of the first character that cannot continue a "
+            + "line, or the length of the text if it ends too early; the first letter of a thirteenth word cannot "
+            + "continue a line.")
     static void errorOfLine() {
         lineFails("1", 0);
         lineFails("a1 b1", 1);
@@ -179,8 +179,8 @@ public final class DescriptionTest extends Scanners {
         marksAre("ababe", 20);
     }
 
-    @Sentence("Of three or more, the third one from the end has the mark 2; those whose distance from it is an even number "
-            + "have the mark 1, all others 0.")
+    @Sentence("Of three or more, the third one from the end has the mark 2; those whose distance from it is an even "
+            + "number have the mark 1, all others 0.")
     static void marksOfMore() {
         marksAre("memory", 201);
         marksAre("abacada", 201);
@@ -199,8 +199,8 @@ public final class DescriptionTest extends Scanners {
 
     // ---- Exceptions
 
-    @Sentence("There are at most 8 exceptions, each for a word, with 1 to 6 marks: the word has as many syllables, with "
-            + "these marks.")
+    @Sentence("There are at most 8 exceptions, each for a word, with 1 to 6 marks: the word has as many syllables, "
+            + "with these marks.")
     static void eightExceptions() {
         VerseScanner x = with("a memory hmm");
         excepted(x, "a 012012", "memory 0", "hmm 2222", "d 0", "e 0", "f 0", "g 0", "h 0");
@@ -219,8 +219,8 @@ public final class DescriptionTest extends Scanners {
 
     // ---- Metres
 
-    @Sentence("A metre has a kind, 2 to 6 feet, and a caesura, which is behind one of the feet, other than the last one, "
-            + "or missing.")
+    @Sentence("A metre has a kind, 2 to 6 feet, and a caesura, which is behind one of the feet, other than the last "
+            + "one, or missing.")
     static void formOfMetre() {
         VerseScanner x = new VerseScanner();
         int previous = 50;
@@ -241,8 +241,8 @@ public final class DescriptionTest extends Scanners {
         Due.is("the last metre stays", 365, () -> x.setMetre(0, 2, 0));
     }
 
-    @Sentence("The feet of the kinds consist of weak and strong positions: 0, iamb: weak, strong; 1, trochee: strong, weak; "
-            + "2, anapest: weak, weak, strong; 3, dactyl: strong, weak, weak.")
+    @Sentence("The feet of the kinds consist of weak and strong positions: 0, iamb: weak, strong; 1, trochee: strong, "
+            + "weak; 2, anapest: weak, weak, strong; 3, dactyl: strong, weak, weak.")
     static void feetOfKinds() {
         String[] names = {"iamb", "trochee", "anapest", "dactyl"};
         int[] due = {0b1010, 0b0101, 0b100100, 0b001001};
@@ -281,9 +281,9 @@ public final class DescriptionTest extends Scanners {
 
     // ---- Elisions
 
-    @Sentence("There is a place for an elision between two words that follow one another without a comma between them, if "
-            + "the last letter of the first one belongs to a core by the rules above, and the first letter of the second "
-            + "one is a vowel.")
+    @Sentence("There is a place for an elision between two words that follow one another without a comma between "
+            + "them, if the last letter of the first one belongs to a core by the rules above, and the first letter "
+            + "of the second one is a vowel.")
     static void places() {
         placesAre("the ocean", 1);
         placesAre("the ocean,", 1);
@@ -312,8 +312,8 @@ public final class DescriptionTest extends Scanners {
         Due.fails("an elision there", ARGUMENT, () -> x.cost(0, 0, 1, false));
     }
 
-    @Sentence("An elision makes one syllable of the last syllable of the first word and the first one of the second word; "
-            + "its mark is the greater one of both.")
+    @Sentence("An elision makes one syllable of the last syllable of the first word and the first one of the second "
+            + "word; its mark is the greater one of both.")
     static void elision() {
         for (int one = 0; one <= 2; one++) {
             for (int other = 0; other <= 2; other++) {
@@ -361,8 +361,8 @@ public final class DescriptionTest extends Scanners {
 
     // ---- Scans
 
-    @Sentence("A scan of a line by the metre is a choice of places for elisions and whether the first foot is inverted, so "
-            + "that its positions stand in the opposite order.")
+    @Sentence("A scan of a line by the metre is a choice of places for elisions and whether the first foot is "
+            + "inverted, so that its positions stand in the opposite order.")
     static void inversion() {
         String[] due = {"swws", "wssw", "swwwws", "wwssww"};
         for (int kind = 0; kind < 4; kind++) {
@@ -421,8 +421,8 @@ public final class DescriptionTest extends Scanners {
         }
     }
 
-    @Sentence("If the metre has a caesura, the syllable that takes the position behind it has to be the first one of a word, "
-            + "and without an elision.")
+    @Sentence("If the metre has a caesura, the syllable that takes the position behind it has to be the first one of "
+            + "a word, and without an elision.")
     static void caesura() {
         VerseScanner x = excepted(new VerseScanner(), "ab 11", "ba 11");
         added(x, 0, "b b b b", "b ocean b", "b b a ab", "b a e b b", "b b ba e");
@@ -448,9 +448,10 @@ public final class DescriptionTest extends Scanners {
 
     // ---- Costs
 
-    @Sentence("The cost of a scan is the sum of: 2 for each elision; 2 if the first foot is inverted; 1 if there is one "
-            + "syllable more or one less than positions; 1 if there is no comma at the caesura; 3 for each syllable with "
-            + "the mark 2 that takes a weak position; and 4 for each syllable with the mark 0 that takes a strong position.")
+    @Sentence("The cost of a scan is the sum of: 2 for each elision; 2 if the first foot is inverted; 1 if there is "
+            + "one syllable more or one less than positions; 1 if there is no comma at the caesura; 3 for each "
+            + "syllable with the mark 2 that takes a weak position; and 4 for each syllable with the mark 0 that "
+            + "takes a strong position.")
     static void costs() {
         VerseScanner x = with("a e b a e b", "b b b b b", "b b b", "b b, b b");
         x.setMetre(0, 2, 0);
@@ -474,8 +475,9 @@ public final class DescriptionTest extends Scanners {
         Due.is("and no comma", 1 + 6 * 3 + 6 * 4, () -> y.cost(0, 0, 0, false));
     }
 
-    @Sentence("The best scan is that with the least cost, of several that with the fewest elisions, of several that with the "
-            + "lower set of places, as bits, where bit k stands for place k, of several that without an inverted foot.")
+    @Sentence("The best scan is that with the least cost, of several that with the fewest elisions, of several that "
+            + "with the lower set of places, as bits, where bit k stands for place k, of several that without an "
+            + "inverted foot.")
     static void bestScan() {
         // 2 0 1 1 by s w s w, against one more, 1 2 0 1 1: 8, or inverted 7
         bestIs("trochee 2", "a i m m", 2, 1, 0);
@@ -529,9 +531,9 @@ public final class DescriptionTest extends Scanners {
         Due.is("30 by 29", 4, () -> y.reason(0, 1));
     }
 
-    @Sentence("The reason of a line is 0 if it fits; 1 if it has too few syllables for any scan even without elisions; 2 if "
-            + "it has too many even with as many elisions as can be made together; 3 if it has no scan, but neither of "
-            + "these is the case; 4 if it has a scan and does not fit.")
+    @Sentence("The reason of a line is 0 if it fits; 1 if it has too few syllables for any scan even without "
+            + "elisions; 2 if it has too many even with as many elisions as can be made together; 3 if it has no "
+            + "scan, but neither of these is the case; 4 if it has a scan and does not fit.")
     static void reasons() {
         VerseScanner x = with("b b b", "b b b b", "b b b b b", "b b b b b b", "b b a a b b", "a a a b b b b", "a a a a b b");
         added(x, 0, "b b", "b b a a");
@@ -555,8 +557,8 @@ public final class DescriptionTest extends Scanners {
 
     // ---- Rhymes
 
-    @Sentence("The syllable of rhyme of a line is the last one of its last word with the mark 2, or the last one if there is "
-            + "none.")
+    @Sentence("The syllable of rhyme of a line is the last one of its last word with the mark 2, or the last one if "
+            + "there is none.")
     static void syllableOfRhyme() {
         rhymeIs("memory 220", "ory");
         rhymeIs("memory 222", "y");
@@ -569,9 +571,9 @@ public final class DescriptionTest extends Scanners {
         Due.is("a mark of an earlier word", "ay", () -> rhymeOf(excepted(with("memory day"), "memory 2"), 0));
     }
 
-    @Sentence("The rhyme of a line consists of the letters of its last word from a core on, where this core is as many cores "
-            + "before the last one as the syllable of rhyme is before the last syllable, or the first core if there are "
-            + "not so many; a last e that is no core is left out.")
+    @Sentence("The rhyme of a line consists of the letters of its last word from a core on, where this core is as "
+            + "many cores before the last one as the syllable of rhyme is before the last syllable, or the first core "
+            + "if there are not so many; a last e that is no core is left out.")
     static void lettersOfRhyme() {
         rhymeIs("memory 20", "ory");
         rhymeIs("memory 2", "y");
@@ -609,8 +611,8 @@ public final class DescriptionTest extends Scanners {
         Due.is("of a word that is all in the elision", "i", () -> rhymeOf(with("be i"), 0));
     }
 
-    @Sentence("The kind of two lines is 3 if their last words are the same; 2 if their rhymes are the same; 1 if the vowels of "
-            + "their rhymes are the same, in their order; otherwise 0.")
+    @Sentence("The kind of two lines is 3 if their last words are the same; 2 if their rhymes are the same; 1 if the "
+            + "vowels of their rhymes are the same, in their order; otherwise 0.")
     static void kindsOfRhymes() {
         kindIs("a gate", "the gate,", 3);
         kindIs("gate", "gates", 0);
@@ -636,8 +638,9 @@ public final class DescriptionTest extends Scanners {
         Due.is("kind of " + other + " and " + one, due, () -> x.rhymes(0, 1, 0));
     }
 
-    @Sentence("The class of a line in a draft is 0 for the first line; for any other one it is that of the first line before it "
-            + "of which the kind with it is 2 or 3, or otherwise the lowest number that no line before it has as its class.")
+    @Sentence("The class of a line in a draft is 0 for the first line; for any other one it is that of the first line "
+            + "before it of which the kind with it is 2 or 3, or otherwise the lowest number that no line before it "
+            + "has as its class.")
     static void classes() {
         classesAre(with("sea"), 0);
         classesAre(with("sea", "sea"), 0, 0);
@@ -657,8 +660,8 @@ public final class DescriptionTest extends Scanners {
 
     // ---- Drafts
 
-    @Sentence("There are 4 drafts, numbered from 0, at first empty, each of which is a list of at most 10 lines, numbered from "
-            + "0.")
+    @Sentence("There are 4 drafts, numbered from 0, at first empty, each of which is a list of at most 10 lines, "
+            + "numbered from 0.")
     static void fourDrafts() {
         VerseScanner x = new VerseScanner();
         for (int i = 0; i < 4; i++) {
@@ -676,10 +679,10 @@ public final class DescriptionTest extends Scanners {
         Due.fails("draft -1", INDEX, () -> x.account(-1, 0));
     }
 
-    @Sentence("The difference of two drafts is the least sum by which the first one becomes the second one: 3 for each line "
-            + "that is removed or added, and for each line that becomes another one, where the lines keep their order, "
-            + "the number of places of words at which they have different words, or just one of them has one, but at most "
-            + "5; commas do not matter.")
+    @Sentence("The difference of two drafts is the least sum by which the first one becomes the second one: 3 for "
+            + "each line that is removed or added, and for each line that becomes another one, where the lines keep "
+            + "their order, the number of places of words at which they have different words, or just one of them has "
+            + "one, but at most 5; commas do not matter.")
     static void differences() {
         differenceIs("", "", 0);
         differenceIs("", "a", 3);
@@ -718,8 +721,9 @@ public final class DescriptionTest extends Scanners {
         return x;
     }
 
-    @Sentence("The changes are the successful calls of setMetre, readMetre, setTolerance, readException, dropException, addLine, "
-            + "replaceLine, removeLine, moveLine, copyDraft and clearDraft; also if nothing is different afterwards.")
+    @Sentence("The changes are the successful calls of setMetre, readMetre, setTolerance, readException, "
+            + "dropException, addLine, replaceLine, removeLine, moveLine, copyDraft and clearDraft; also if nothing "
+            + "is different afterwards.")
     static void changes() {
         isChange("setMetre", true, x -> x.setMetre(0, 2, 0));
         isChange("readMetre", true, x -> fed(x, "iamb 2").readMetre());
@@ -823,7 +827,8 @@ public final class DescriptionTest extends Scanners {
         return fed(x, "end");
     }
 
-    @Sentence("A method that throws an exception leaves everything unchanged, except that the input is treated as described.")
+    @Sentence("A method that throws an exception leaves everything unchanged, except that the input is treated as "
+            + "described.")
     static void failuresChangeNothing() {
         failsAlone("setMetre", ARGUMENT, x -> x.setMetre(0, 7, 0));
         failsAlone("metre", ARGUMENT, x -> x.metre(5));
@@ -883,8 +888,8 @@ public final class DescriptionTest extends Scanners {
 
     // ---- In doubt
 
-    @Sentence("If there is one syllable more than positions, the last one is the one that takes none, and it costs nothing by "
-            + "its mark.")
+    @Sentence("If there is one syllable more than positions, the last one is the one that takes none, and it costs "
+            + "nothing by its mark.")
     static void oneMore() {
         VerseScanner x = marked("11110", "11111", "21111", "01111", "11112");
         for (int i = 0; i < 2; i++) {
@@ -904,8 +909,9 @@ public final class DescriptionTest extends Scanners {
         Due.fails("the last one an elision of 2 and 0", ELEMENT, () -> y.cost(0, 2, 8, false));
     }
 
-    @Sentence("The syllable behind the caesura is made of one word alone, so that a word of one syllable that is elided with "
-            + "the next one cannot stand there; the comma at the caesura is the one behind the word before it.")
+    @Sentence("The syllable behind the caesura is made of one word alone, so that a word of one syllable that is "
+            + "elided with the next one cannot stand there; the comma at the caesura is the one behind the word "
+            + "before it.")
     static void syllableBehindCaesura() {
         VerseScanner x = excepted(new VerseScanner(), "ba 11");
         added(x, 0, "b b a e b", "b b ba e", "b b, b b", "b, b b b", "b b b, b", "b b b b,", "b ba, b b", "b, ba b b");
@@ -923,8 +929,9 @@ public final class DescriptionTest extends Scanners {
         Due.is("a comma before that word", 1 + 1, () -> x.cost(0, 7, 0, false));
     }
 
-    @Sentence("A line that has one syllable less than positions, of which the last one is strong, has too few; one that has one "
-            + "more even with all elisions that can be made, the last one with the mark 2, has the reason 3.")
+    @Sentence("A line that has one syllable less than positions, of which the last one is strong, has too few; one "
+            + "that has one more even with all elisions that can be made, the last one with the mark 2, has the "
+            + "reason 3.")
     static void oneLessOrMore() {
         VerseScanner x = marked("111", "11112", "111112", "11111");
         x.setMetre(0, 2, 0);
@@ -939,8 +946,8 @@ public final class DescriptionTest extends Scanners {
         reasonsAre(z, 3, 0);
     }
 
-    @Sentence("The rhyme of a word whose exception has more syllables than it has cores begins at its first core, if there are "
-            + "not so many before the last one.")
+    @Sentence("The rhyme of a word whose exception has more syllables than it has cores begins at its first core, if "
+            + "there are not so many before the last one.")
     static void rhymeOfLongException() {
         rhymeIs("gate 20", "at");
         rhymeIs("gate 200000", "at");

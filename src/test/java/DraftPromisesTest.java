@@ -16,8 +16,8 @@ public final class DraftPromisesTest extends Scanners {
 
     // ---- addLine
 
-    @Sentence(promise = 11, value = "Reads the input as a line and adds it to a draft, where it gets a given number; the numbers "
-            + "of all lines from there on increase by 1.")
+    @Sentence(promise = 11, value = "Reads the input as a line and adds it to a draft, where it gets a given number; "
+            + "the numbers of all lines from there on increase by 1.")
     static void addLine() {
         String[] due = {"x/a/b/c", "a/x/b/c", "a/b/x/c", "a/b/c/x"};
         for (int i = 0; i < due.length; i++) {
@@ -35,8 +35,8 @@ public final class DraftPromisesTest extends Scanners {
         Due.is("the tenth line behind all", "a/b/c/d/e/f/g/h/i/x", () -> texts(y, 2));
     }
 
-    @Sentence(promise = 11, value = "The input is empty afterwards, also if an exception is thrown, but not if there is no such "
-            + "draft or number.")
+    @Sentence(promise = 11, value = "The input is empty afterwards, also if an exception is thrown, but not if there "
+            + "is no such draft or number.")
     static void inputAfterAddLine() {
         VerseScanner x = fed(of(TEN), "a ");
         Due.fails("no such draft", INDEX, () -> x.addLine(4, 0));
@@ -59,17 +59,24 @@ public final class DraftPromisesTest extends Scanners {
     static void numbersToAdd() {
         for (int i = 0; i <= 9; i++) {
             int count = i;
-            Maker maker = () -> added(new VerseScanner(), 1, count == 0 ? new String[0] : TEN.substring(0, 2 * count - 1).split("/"));
             for (int j = 0; j <= count; j++) {
                 int at = j;
-                VerseScanner x = maker.make();
-                Due.is("addLine at " + at + " of " + count, 1, () -> fed(x, "x").addLine(1, at));
-                Due.is("its line " + at, "x", () -> text(x, 1, at));
+                VerseScanner x = ofCount(count);
+                Due.is("addLine at " + at + " of " + count, 1, () -> fed(x, "x").addLine(2, at));
+                Due.is("its line " + at, "x", () -> text(x, 2, at));
             }
             for (int wrong : new int[] {-1, count + 1, Integer.MIN_VALUE, Integer.MAX_VALUE}) {
-                Due.fails("addLine at " + wrong + " of " + count, INDEX, () -> fed(maker.make(), "x").addLine(1, wrong));
+                Due.fails("addLine at " + wrong + " of " + count, INDEX, () -> fed(ofCount(count), "x").addLine(2, wrong));
             }
         }
+    }
+
+    private static VerseScanner ofCount(int count) {
+        VerseScanner x = of(TEN);
+        while (x.account(2, 0) > count) {
+            x.removeLine(2, 0);
+        }
+        return x;
     }
 
     @Sentence(promise = 11, value = "Returns the number of words of the line.")
@@ -97,18 +104,10 @@ public final class DraftPromisesTest extends Scanners {
         for (int i = 0; i < texts.length; i++) {
             String text = texts[i];
             int error = errors[i];
-            failsAlone("addLine of '" + text + "'", ARGUMENT, () -> of("a/b"), x -> fed(x, text).addLine(2, 1), x -> {
-                added(x, 0, "b");
-                erredAndUndone(x, error);
-            });
+            failsAlone("addLine of '" + text + "'", ARGUMENT, () -> of("a/b"), x -> fed(x, text).addLine(2, 1),
+                    x -> erred(x, error));
             Due.fails("addLine of '" + text + "' to a full draft", ARGUMENT, () -> fed(of(TEN), text).addLine(2, 0));
         }
-    }
-
-    /** An error of a text for line 0 of draft 0, which is then undone away; the change before it stays undone. */
-    private static void erredAndUndone(VerseScanner x, int position) {
-        erred(x, position);
-        x.undo();
     }
 
     @Sentence(promise = 11, value = "Throws `IllegalStateException` if the draft has 10 lines")
@@ -268,8 +267,8 @@ public final class DraftPromisesTest extends Scanners {
         Due.is("moveLine of the only one", 0, () -> of("a").moveLine(2, 0, 0));
     }
 
-    @Sentence(promise = 14, value = "Throws `IndexOutOfBoundsException` if there is no such draft or line, or to is no number of a "
-            + "line")
+    @Sentence(promise = 14, value = "Throws `IndexOutOfBoundsException` if there is no such draft or line, or to is "
+            + "no number of a line")
     static void moveNoLine() {
         needsLine("moveLine", (x, draft, line) -> x.moveLine(draft, line, 0));
         needsLine("moveLine", (x, draft, line) -> x.moveLine(draft, 0, line));

@@ -132,8 +132,8 @@ public final class InputPromisesTest extends Scanners {
         }
     }
 
-    @Sentence(promise = 4, value = "- `caesura`: the number of feet before the caesura, 1 to the number of feet minus 1, or 0 "
-            + "if it is missing")
+    @Sentence(promise = 4, value = "- `caesura`: the number of feet before the caesura, 1 to the number of feet minus "
+            + "1, or 0 if it is missing")
     static void caesuras() {
         VerseScanner x = new VerseScanner();
         for (int i = 2; i <= 6; i++) {
@@ -148,7 +148,8 @@ public final class InputPromisesTest extends Scanners {
         }
     }
 
-    @Sentence(promise = 4, value = "Returns the previous metre: 100 times its kind, plus 10 times its feet, plus its caesura.")
+    @Sentence(promise = 4, value = "Returns the previous metre: 100 times its kind, plus 10 times its feet, plus its "
+            + "caesura.")
     static void previousMetre() {
         VerseScanner x = new VerseScanner();
         Due.is("the first one", 50, () -> x.setMetre(3, 6, 5));
@@ -200,8 +201,9 @@ public final class InputPromisesTest extends Scanners {
         Due.is("the caesura that is missing", 0, () -> x.metre(2));
     }
 
-    @Sentence(promise = 5, value = "Its form is: one of the words iamb, trochee, anapest and dactyl, a blank, a digit from 2 to 6 "
-            + "for the feet, then perhaps a slash and a digit for the caesura, from 1 to the number of feet minus 1.")
+    @Sentence(promise = 5, value = "Its form is: one of the words iamb, trochee, anapest and dactyl, a blank, a digit "
+            + "from 2 to 6 for the feet, then perhaps a slash and a digit for the caesura, from 1 to the number of "
+            + "feet minus 1.")
     static void formOfMetre() {
         for (int kind = 0; kind < 4; kind++) {
             for (int feet = 2; feet <= 6; feet++) {
@@ -226,8 +228,8 @@ public final class InputPromisesTest extends Scanners {
         metreFails(" iamb 2", 0);
     }
 
-    @Sentence(promise = 5, value = "The error position is the position of the first character that cannot continue a metre, or "
-            + "the length of the text if it ends too early.")
+    @Sentence(promise = 5, value = "The error position is the position of the first character that cannot continue a "
+            + "metre, or the length of the text if it ends too early.")
     static void errorOfMetre() {
         for (String text : new String[] {"iamb 2", "trochee 3", "anapest 5", "dactyl 6"}) {
             for (int i = 0; i < text.length(); i++) {
@@ -296,8 +298,8 @@ public final class InputPromisesTest extends Scanners {
         Due.is("after restore", 0, () -> x.metre(2));
     }
 
-    @Sentence(promise = 6, value = "- `what`: 0 for the kind, 1 for the feet, 2 for the caesura, 3 for the number of positions, 4 "
-            + "for the set of strong positions, as bits")
+    @Sentence(promise = 6, value = "- `what`: 0 for the kind, 1 for the feet, 2 for the caesura, 3 for the number of "
+            + "positions, 4 for the set of strong positions, as bits")
     static void numbersOfMetre() {
         int[][] metres = {{0, 2, 1, 4, 0b1010}, {1, 6, 5, 12, 0b010101010101}, {2, 3, 0, 9, 0b100100100},
             {3, 6, 1, 18, 0b001001001001001001}, {2, 6, 2, 18, 0b100100100100100100}};
@@ -368,8 +370,8 @@ public final class InputPromisesTest extends Scanners {
         return excepted(with("a b c h i"), "a 10", "b 1", "c 1", "d 1", "e 1", "f 1", "g 1", "h 01");
     }
 
-    @Sentence(promise = 8, value = "Reads the input as an exception, which takes the place of an earlier one for the same word, or "
-            + "otherwise becomes the last one.")
+    @Sentence(promise = 8, value = "Reads the input as an exception, which takes the place of an earlier one for the "
+            + "same word, or otherwise becomes the last one.")
     static void placeOfException() {
         VerseScanner x = excepted(with("a b ab"), "a 10", "b 20");
         Due.is("the last one", 2, () -> fed(x, "ab 22").readException());
@@ -414,8 +416,8 @@ public final class InputPromisesTest extends Scanners {
         exceptionFails("a " + (char) ('0' + 256), 2);
     }
 
-    @Sentence(promise = 8, value = "The error position is told as for readMetre; a thirteenth letter and a seventh digit cannot "
-            + "stand.")
+    @Sentence(promise = 8, value = "The error position is told as for readMetre; a thirteenth letter and a seventh "
+            + "digit cannot stand.")
     static void errorOfException() {
         String text = "word 0120";
         for (int i = 0; i < text.length(); i++) {
@@ -468,7 +470,8 @@ public final class InputPromisesTest extends Scanners {
         }
     }
 
-    @Sentence(promise = 8, value = "Throws `IllegalStateException` if there are 8 exceptions, and none of them is for the word")
+    @Sentence(promise = 8, value = "Throws `IllegalStateException` if there are 8 exceptions, and none of them is for "
+            + "the word")
     static void ninthException() {
         failsAlone("a ninth one", STATE, () -> eightExceptions(), x -> fed(x, "i 1").readException(), x -> { });
         failsAlone("a word that begins as one of them", STATE, () -> eightExceptions(),

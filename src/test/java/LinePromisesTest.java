@@ -45,9 +45,10 @@ public final class LinePromisesTest extends Scanners {
         Due.is("the syllables of the line in its place", 1, () -> x.line(3, 0, 1));
     }
 
-    @Sentence(promise = 18, value = "- `what`: 0 for the number of words, 1 for the number of syllables without elisions, 2 for the "
-            + "set of places for elisions, as bits, 3 for the greatest number of elisions that can be made together, 4 for "
-            + "the number of commas, 5 for its class, 6 for the number of letters of its rhyme")
+    @Sentence(promise = 18, value = "- `what`: 0 for the number of words, 1 for the number of syllables without "
+            + "elisions, 2 for the set of places for elisions, as bits, 3 for the greatest number of elisions that "
+            + "can be made together, 4 for the number of commas, 5 for its class, 6 for the number of letters of its "
+            + "rhyme")
     static void numbersOfLine() {
         numbersAre("line", with("b"), (x, what) -> x.line(0, 0, what), 1, 1, 0, 0, 0, 0, 1);
         numbersAre("line", with("the ocean, over a idea, a memory,"), (x, what) -> x.line(0, 0, what), 7, 12, 0b1001, 2, 3, 0, 5);
@@ -98,9 +99,9 @@ public final class LinePromisesTest extends Scanners {
         Due.fails("word 1 of one", INDEX, () -> x.word(0, 1, 1, 0));
     }
 
-    @Sentence(promise = 19, value = "- `what`: 0 for its letters, 1 for its cores, 2 for its syllables, 3 for 1 if a comma follows "
-            + "it, otherwise 0, 4 for its exception, -1 without one, 5 for its marks as decimal digits, the first one the "
-            + "highest")
+    @Sentence(promise = 19, value = "- `what`: 0 for its letters, 1 for its cores, 2 for its syllables, 3 for 1 if a "
+            + "comma follows it, otherwise 0, 4 for its exception, -1 without one, 5 for its marks as decimal digits, "
+            + "the first one the highest")
     static void numbersOfWord() {
         VerseScanner x = with("b abababababab, silence memory", "gate, gate", "gate,");
         numbersAre("word", x, (y, what) -> y.word(0, 0, 0, what), 1, 1, 1, 0, -1, 1);
@@ -255,8 +256,8 @@ public final class LinePromisesTest extends Scanners {
         needsLine("cost of no set", (x, draft, line) -> x.cost(draft, line, -1, true));
     }
 
-    @Sentence(promise = 22, value = "Throws `IllegalArgumentException` if the set has other bits than those of places, or a word "
-            + "that has only one syllable would be elided at both ends")
+    @Sentence(promise = 22, value = "Throws `IllegalArgumentException` if the set has other bits than those of "
+            + "places, or a word that has only one syllable would be elided at both ends")
     static void costOfNoSet() {
         VerseScanner x = with("the ocean a day", "a a a a b", "b");
         int[] wrong = {2, 4, 8, 3, 1 << 11, 1 << 30, Integer.MIN_VALUE, Integer.MIN_VALUE + 1, -1, Integer.MAX_VALUE};
@@ -311,9 +312,9 @@ public final class LinePromisesTest extends Scanners {
         Due.is("the cost of a scan that does not fit", 3, () -> y.scan(0, 0, 0));
     }
 
-    @Sentence(promise = 23, value = "- `what`: 0 for its cost, 1 for its elisions, as bits, 2 for 1 if its first foot is inverted, "
-            + "otherwise 0, 3 for the number of its syllables, 4 for the first foot, from 0, with a syllable that costs 3 or 4, "
-            + "-1 without one, 5 for the number of such syllables")
+    @Sentence(promise = 23, value = "- `what`: 0 for its cost, 1 for its elisions, as bits, 2 for 1 if its first foot "
+            + "is inverted, otherwise 0, 3 for the number of its syllables, 4 for the first foot, from 0, with a "
+            + "syllable that costs 3 or 4, -1 without one, 5 for the number of such syllables")
     static void numbersOfScan() {
         scanIs("1111", 0, 2, 0, 0, 0, 4, -1, 0);
         scanIs("11111", 0, 2, 1, 0, 0, 5, -1, 0);

@@ -78,7 +78,7 @@ abstract class Scanners {
 
     /** Reads a text whose error is at a position, 0 to 12, and nothing else. */
     static void erred(VerseScanner x, int position) {
-        Due.fails("a text with an error", ARGUMENT, () -> fed(x, "a".repeat(position) + "?").replaceLine(0, 0));
+        Due.fails("a text with an error", ARGUMENT, () -> fed(x, "a".repeat(position) + "?").addLine(0, 0));
     }
 
     static String text(VerseScanner x, int draft, int line) {

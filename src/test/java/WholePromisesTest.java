@@ -42,9 +42,9 @@ public final class WholePromisesTest extends Scanners {
         Due.is("suits of " + String.join(" ", lines) + " by " + tolerance, due, () -> x.suits(0));
     }
 
-    @Sentence(promise = 27, value = "Finds the metre that suits a draft best: of all metres without a caesura that by which the most "
-            + "lines fit, of several that with the least sum of the costs of the best scans of the lines that fit, of several "
-            + "that with the lowest kind, of several that with the fewest feet.")
+    @Sentence(promise = 27, value = "Finds the metre that suits a draft best: of all metres without a caesura that by "
+            + "which the most lines fit, of several that with the least sum of the costs of the best scans of the "
+            + "lines that fit, of several that with the lowest kind, of several that with the fewest feet.")
     static void suits() {
         // the most lines: two of six syllables, before one of four without any cost
         suit(13, 6, "202020", "202020", "0202");
@@ -156,10 +156,10 @@ public final class WholePromisesTest extends Scanners {
         }
     }
 
-    @Sentence(promise = 28, value = "- `what`: 0 for the number of lines, 1 for the number of lines that fit, 2 for the sum of the "
-            + "costs of the best scans of all lines that have one, 3 for the number of lines without a scan, 4 for the number "
-            + "of classes, 5 for the sum of all syllables without elisions, 6 for the sum of the elisions in all best scans, 7 "
-            + "for the number of words that have exceptions")
+    @Sentence(promise = 28, value = "- `what`: 0 for the number of lines, 1 for the number of lines that fit, 2 for "
+            + "the sum of the costs of the best scans of all lines that have one, 3 for the number of lines without a "
+            + "scan, 4 for the number of classes, 5 for the sum of all syllables without elisions, 6 for the sum of "
+            + "the elisions in all best scans, 7 for the number of words that have exceptions")
     static void accounts() {
         VerseScanner x = accounted();
         // by iamb 2: 0; 3; 2; no scan; 7 syllables, of which two elisions leave 5: 4 and one more
@@ -209,8 +209,8 @@ public final class WholePromisesTest extends Scanners {
 
     // ---- meanCost
 
-    @Sentence(promise = 29, value = "Returns the mean cost of a draft: its account 2, divided by the number of lines that have a scan, "
-            + "both converted to float.")
+    @Sentence(promise = 29, value = "Returns the mean cost of a draft: its account 2, divided by the number of lines "
+            + "that have a scan, both converted to float.")
     static void meanCost() {
         Due.is("of four lines of five", 10f / 4f, () -> accounted().meanCost(0));
         VerseScanner x = marked("1111", "11111", "1112", "11", "1110");
@@ -349,7 +349,8 @@ public final class WholePromisesTest extends Scanners {
 
     // ---- save and restore
 
-    @Sentence(promise = 31, value = "Saves the metre, the tolerance, the exceptions and the drafts, in place of what was saved before.")
+    @Sentence(promise = 31, value = "Saves the metre, the tolerance, the exceptions and the drafts, in place of what "
+            + "was saved before.")
     static void save() {
         VerseScanner x = filled();
         x.save();
